@@ -511,20 +511,12 @@ public final class BoothOtters {
         int firstError() {
             reader.start();
             for (int at = 0; at < length; at++) {
-                if (!isPossible(text[at])) {
+                boolean possible = text[at] == ';' ? reader.startNext() : reader.take(text[at]);
+                if (!possible) {
                     return at;
                 }
             }
             return reader.isWhole() ? NONE : length;
-        }
-
-        private boolean isPossible(char character) {
-            if (character != ';') {
-                return reader.take(character);
-            }
-            boolean possible = reader.isWhole();
-            reader.start();
-            return possible;
         }
 
         /** Does all steps on the state; the program must be valid. */
@@ -582,6 +574,13 @@ public final class BoothOtters {
             second = NONE;
             negative = false;
             number = 0;
+        }
+
+        /** Starts on the step behind a ";"; false if the step ahead of it is not whole. */
+        boolean startNext() {
+            boolean whole = isWhole();
+            start();
+            return whole;
         }
 
         /** Takes the next character; false, and nothing is taken, if no valid program has it here. */
@@ -704,7 +703,7 @@ public final class BoothOtters {
         }
 
         private static boolean isLetter(char character) {
-            return isRegister(character - 'A');
+            return character >= 'A' && character <= 'F';
         }
 
         private static boolean isDigit(char character) {

@@ -148,6 +148,12 @@ final class ProgramsTest {
         result(11, -4, "A=#127", 127);
         result(11, -4, "A=#9;A=A*A", 81);
         result(11, -4, "A=#1;A=A+A;A=A+A;A=A+A", 8);
+        // Nothing of a step goes on into the next one.
+        result(11, -4, "D=B+C;A=C", -4);
+        result(11, -4, "D=B*C;A=-C", 4);
+        result(11, -4, "D=#-9;A=#8", 8);
+        result(11, -4, "D=#-9;A=B", 11);
+        result(11, -4, "D=-B;E=B-C;A=#12", 12);
         result(-128, 127, "A=-B", -128);
         result(-128, 127, "A=B-C", 1);
         result(-128, 127, "A=C+C", -2);
@@ -181,6 +187,8 @@ final class ProgramsTest {
         overflow(-127, 0, "A=-B", BoothOtters.NONE, 0);
         overflow(16, 8, "A=B*C", 0, 1);
         overflow(16, -8, "A=B*C", BoothOtters.NONE, 0);
+        overflow(100, 28, "A=#100;D=B", BoothOtters.NONE, 0);
+        overflow(100, 28, "A=#-100;D=-B", BoothOtters.NONE, 0);
         overflow(0, 0, "A=#127;A=#-128", BoothOtters.NONE, 0);
         overflow(0, 0, "A=#127;A=#128", 1, 1);
         overflow(0, 0, "A=#-129;A=#0", 0, 1);

@@ -9,6 +9,7 @@ final class UndoTest {
         latestFour();
         everyAction();
         stateComesBack();
+        multiplicationComesBack();
         snapshots();
         snapshotAndUndo();
         CHECKS.end();
@@ -95,6 +96,28 @@ final class UndoTest {
         CHECKS.same("undo takes the overflow back", otters.overflows(), 0);
         otters.undo();
         CHECKS.same("undo takes the steps back", otters.stepsMade(), 1);
+    }
+
+    /** A multiplication that another one displaced goes on with its own width, recoding and multiplicand. */
+    private static void multiplicationComesBack() {
+        BoothOtters otters = new BoothOtters();
+        otters.set(0, 13);
+        otters.set(1, -11);
+        otters.begin(0, 1, BoothOtters.TRIPLES);
+        otters.step();
+        otters.begin(1, 1, BoothOtters.PAIRS);
+        otters.undo();
+        otters.finish();
+        CHECKS.same("TRIPLES go on behind PAIRS", otters.highPart() * 256 + otters.lowPart(), -143);
+        otters.begin(0, 1, BoothOtters.PAIRS);
+        otters.setWidth(12);
+        otters.begin(1, 0, BoothOtters.TRIPLES);
+        otters.undo();
+        otters.undo();
+        CHECKS.same("PAIRS go on behind TRIPLES", otters.stepsLeft(), 8);
+        otters.finish();
+        CHECKS.same("with the width they had", otters.highPart() * 256 + otters.lowPart(), -143);
+        CHECKS.same("stepsMade()", otters.stepsMade(), 12);
     }
 
     private static void snapshots() {
