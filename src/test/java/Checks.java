@@ -25,17 +25,32 @@ final class Checks {
         }
     }
 
-    /** The call throws just this class (no class below it: those are the machine's), and changes nothing. */
+    /** The case ends without throwing, not even what the machine throws. */
+    void passes(String what, Runnable play) {
+        made++;
+        try {
+            play.run();
+        } catch (AssertionError | RuntimeException e) {
+            report(what + ": " + (e instanceof AssertionError ? e.getMessage() : e.toString()));
+        }
+    }
+
     void refuses(BoothOtters otters, String what, Class<? extends RuntimeException> due, Call call) {
         made++;
+        String wrongly = wronglyRefused(otters, due, call);
+        if (!wrongly.isEmpty()) {
+            report(what + " " + wrongly);
+        }
+    }
+
+    /** Empty if the call throws just this class (no class below it: those are the machine's), and changes nothing. */
+    static String wronglyRefused(BoothOtters otters, Class<? extends RuntimeException> due, Call call) {
         List<Long> before = allThatShows(otters);
         Class<?> thrown = thrownBy(call);
         if (thrown != due) {
-            report(what + " threw " + nameOf(thrown) + ", due is " + nameOf(due));
+            return "threw " + (thrown == null ? "nothing" : thrown.getSimpleName()) + ", due is " + due.getSimpleName();
         }
-        if (!allThatShows(otters).equals(before)) {
-            report(what + " threw and changed something");
-        }
+        return allThatShows(otters).equals(before) ? "" : "threw and changed something";
     }
 
     static Class<?> thrownBy(Call call) {
@@ -45,6 +60,15 @@ final class Checks {
         } catch (RuntimeException e) {
             return e.getClass();
         }
+    }
+
+    /** A new object, for it is promised for 512 calls alone, with this width and with A and B set. */
+    static BoothOtters made(int width, int a, int b) {
+        BoothOtters otters = new BoothOtters();
+        otters.setWidth(width);
+        otters.set(0, a);
+        otters.set(1, b);
+        return otters;
     }
 
     static void type(BoothOtters otters, String text) {
@@ -88,9 +112,5 @@ final class Checks {
         if (wrong <= 50) {
             System.out.println(text);
         }
-    }
-
-    private static String nameOf(Class<?> thrown) {
-        return thrown == null ? "nothing" : thrown.getSimpleName();
     }
 }

@@ -1,17 +1,12 @@
 /** Promises 19 and 20: digitAt and rowsOf. */
 final class DigitsTest {
-    private static final Class<IndexOutOfBoundsException> INDEX = IndexOutOfBoundsException.class;
-    private static final Class<IllegalArgumentException> ARGUMENT = IllegalArgumentException.class;
-    private static final Class<IllegalStateException> STATE = IllegalStateException.class;
     private static final Checks CHECKS = new Checks();
 
     public static void main(String[] args) {
         writtenOut();
         for (int width = 4; width <= 16; width++) {
             allValues(width);
-            wrongPlaces(width);
         }
-        wrongInputs();
         CHECKS.end();
     }
 
@@ -47,11 +42,9 @@ final class DigitsTest {
 
     /** The digits of every value are of their kind and tell the value. */
     private static void allValues(int width) {
-        BoothOtters otters = new BoothOtters();
-        otters.setWidth(width);
         int half = 1 << (width - 1);
         for (int value = -half; value < half; value++) {
-            otters.set(1, value);
+            BoothOtters otters = Checks.made(width, 0, value);
             pairs(otters, width, value);
             sparse(otters, width, value);
             if (width % 2 == 0) {
@@ -107,50 +100,5 @@ final class DigitsTest {
 
     private static int bit(int value, int place) {
         return Math.floorMod(Math.floorDiv(value, 1 << place), 2);
-    }
-
-    private static void wrongPlaces(int width) {
-        BoothOtters otters = new BoothOtters();
-        otters.setWidth(width);
-        int[] never = {-1, width, width + 1, 32, Integer.MIN_VALUE, Integer.MAX_VALUE};
-        for (int recoding = 0; recoding < 3; recoding++) {
-            for (int place : never) {
-                refuse(otters, INDEX, 0, recoding, place);
-            }
-        }
-        refuse(otters, INDEX, 0, BoothOtters.TRIPLES, width / 2);
-        if (width % 2 != 0) {
-            refuse(otters, STATE, 0, BoothOtters.TRIPLES, 0);
-            refuse(otters, STATE, 0, BoothOtters.TRIPLES, width / 2 - 1);
-            CHECKS.refuses(otters, "rowsOf by TRIPLES at width " + width, STATE,
-                    () -> otters.rowsOf(0, BoothOtters.TRIPLES));
-        }
-    }
-
-    private static void wrongInputs() {
-        BoothOtters otters = new BoothOtters();
-        int[] noRegisters = {-1, 6, Integer.MIN_VALUE, Integer.MAX_VALUE};
-        int[] noRecodings = {-1, 3, Integer.MIN_VALUE, Integer.MAX_VALUE};
-        for (int width = 7; width <= 8; width++) {
-            otters.setWidth(width);
-            for (int register : noRegisters) {
-                refuse(otters, INDEX, register, BoothOtters.TRIPLES, 0);
-                refuse(otters, INDEX, register, 3, 0);
-                CHECKS.refuses(otters, "rowsOf", INDEX, () -> otters.rowsOf(register, BoothOtters.TRIPLES));
-                CHECKS.refuses(otters, "rowsOf", INDEX, () -> otters.rowsOf(register, 3));
-            }
-            for (int recoding : noRecodings) {
-                refuse(otters, ARGUMENT, 0, recoding, 0);
-                refuse(otters, ARGUMENT, 0, recoding, 99);
-                refuse(otters, ARGUMENT, 0, recoding, -1);
-                CHECKS.refuses(otters, "rowsOf", ARGUMENT, () -> otters.rowsOf(0, recoding));
-            }
-        }
-    }
-
-    private static void refuse(BoothOtters otters, Class<? extends RuntimeException> due,
-            int register, int recoding, int place) {
-        CHECKS.refuses(otters, "digitAt(" + register + ", " + recoding + ", " + place + ")", due,
-                () -> otters.digitAt(register, recoding, place));
     }
 }

@@ -1,7 +1,5 @@
 /** Promises 4 to 7, 24 to 27 and 31: begin, step, finish, store, the parts, stepsLeft and stepsMade. */
 final class MultiplyingTest {
-    private static final Class<IndexOutOfBoundsException> INDEX = IndexOutOfBoundsException.class;
-    private static final Class<IllegalArgumentException> ARGUMENT = IllegalArgumentException.class;
     private static final Class<IllegalStateException> STATE = IllegalStateException.class;
     private static final Checks CHECKS = new Checks();
 
@@ -16,9 +14,6 @@ final class MultiplyingTest {
         allPairs(16, 1999);
         valuesOfThen();
         finishing();
-        storing();
-        nothingMultiplied();
-        wrongBegins();
         CHECKS.end();
     }
 
@@ -73,11 +68,8 @@ final class MultiplyingTest {
     private static void allPairs(int width, int apart) {
         int half = 1 << (width - 1);
         for (int a = -half; a < half; a += apart) {
-            BoothOtters otters = new BoothOtters();
-            otters.setWidth(width);
             for (int b = -half; b < half; b += apart) {
-                otters.set(0, a);
-                otters.set(1, b);
+                BoothOtters otters = Checks.made(width, a, b);
                 multiply(otters, width, BoothOtters.PAIRS, (long) a * b);
                 if (width % 2 == 0) {
                     multiply(otters, width, BoothOtters.TRIPLES, (long) a * b);
@@ -142,80 +134,5 @@ final class MultiplyingTest {
         otters.undo();
         CHECKS.same("finish is one action", otters.stepsLeft(), 5);
         CHECKS.same("undo takes the steps made back", otters.stepsMade(), 3);
-    }
-
-    private static void storing() {
-        BoothOtters otters = new BoothOtters();
-        otters.set(0, -128);
-        otters.begin(0, 0, BoothOtters.TRIPLES);
-        CHECKS.refuses(otters, "store with steps left", STATE, () -> otters.store(0));
-        CHECKS.refuses(otters, "the register comes before the steps", INDEX, () -> otters.store(6));
-        otters.finish();
-        CHECKS.refuses(otters, "store(6)", INDEX, () -> otters.store(6));
-        CHECKS.refuses(otters, "store(-1)", INDEX, () -> otters.store(-1));
-        CHECKS.same("store of 16384", otters.store(0), 0);
-        CHECKS.same("store again", otters.store(1), 0);
-        CHECKS.same("each store counts its overflow", otters.overflows(), 2);
-        otters.undo();
-        CHECKS.same("store is an action", otters.overflows(), 1);
-        otters.set(0, 16);
-        otters.set(1, 8);
-        otters.begin(0, 1, BoothOtters.PAIRS);
-        otters.finish();
-        CHECKS.same("128 wraps to -128", otters.store(2), -128);
-        CHECKS.same("128 is an overflow", otters.overflows(), 2);
-        otters.set(1, -8);
-        otters.begin(0, 1, BoothOtters.PAIRS);
-        otters.finish();
-        CHECKS.same("-128 is a value", otters.store(2), -128);
-        CHECKS.same("-128 is no overflow", otters.overflows(), 2);
-    }
-
-    private static void nothingMultiplied() {
-        BoothOtters otters = new BoothOtters();
-        refuseAll(otters);
-        otters.begin(0, 0, BoothOtters.PAIRS);
-        otters.setWidth(9);
-        refuseAll(otters);
-    }
-
-    private static void refuseAll(BoothOtters otters) {
-        CHECKS.same("stepsLeft()", otters.stepsLeft(), BoothOtters.NONE);
-        CHECKS.refuses(otters, "step()", STATE, () -> otters.step());
-        CHECKS.refuses(otters, "finish()", STATE, () -> otters.finish());
-        CHECKS.refuses(otters, "store(0)", STATE, () -> otters.store(0));
-        CHECKS.refuses(otters, "store(6)", INDEX, () -> otters.store(6));
-        CHECKS.refuses(otters, "highPart()", STATE, () -> otters.highPart());
-        CHECKS.refuses(otters, "lowPart()", STATE, () -> otters.lowPart());
-        CHECKS.refuses(otters, "extraBit()", STATE, () -> otters.extraBit());
-    }
-
-    private static void wrongBegins() {
-        BoothOtters otters = new BoothOtters();
-        int[] noRegisters = {-1, 6, Integer.MIN_VALUE, Integer.MAX_VALUE};
-        int[] noRecodings = {-1, 2, 3, Integer.MIN_VALUE, Integer.MAX_VALUE};
-        otters.begin(0, 0, BoothOtters.PAIRS);
-        for (int register : noRegisters) {
-            refuseBegin(otters, INDEX, register, 0, BoothOtters.PAIRS);
-            refuseBegin(otters, INDEX, 0, register, BoothOtters.PAIRS);
-            refuseBegin(otters, INDEX, 0, register, BoothOtters.SPARSE);
-        }
-        for (int recoding : noRecodings) {
-            refuseBegin(otters, ARGUMENT, 0, 0, recoding);
-        }
-        CHECKS.same("a begin that throws gives nothing up", otters.stepsLeft(), 8);
-        for (int width = 5; width < 16; width += 2) {
-            otters.setWidth(width);
-            refuseBegin(otters, STATE, 0, 0, BoothOtters.TRIPLES);
-            refuseBegin(otters, INDEX, 6, 0, BoothOtters.TRIPLES);
-            refuseBegin(otters, ARGUMENT, 0, 0, BoothOtters.SPARSE);
-            CHECKS.same("PAIRS suit an odd width", otters.begin(0, 0, BoothOtters.PAIRS), width);
-        }
-    }
-
-    private static void refuseBegin(BoothOtters otters, Class<? extends RuntimeException> due,
-            int multiplicand, int multiplier, int recoding) {
-        CHECKS.refuses(otters, "begin(" + multiplicand + ", " + multiplier + ", " + recoding + ")", due,
-                () -> otters.begin(multiplicand, multiplier, recoding));
     }
 }

@@ -1,128 +1,12 @@
-/** Promises 8 to 12 and 30: type, clearProgram, programError, firstOverflow, carryOut and overflows. */
+/** Promises 11, 12 and 30: firstOverflow, carryOut and overflows. */
 final class ProgramsTest {
-    private static final Class<IllegalStateException> STATE = IllegalStateException.class;
     private static final Checks CHECKS = new Checks();
 
     public static void main(String[] args) {
-        typing();
-        errorsInSteps();
-        errorsInNumbers();
-        errorsOfLongPrograms();
         results();
         overflowing();
         carryingOut();
-        notValid();
         CHECKS.end();
-    }
-
-    private static void typing() {
-        BoothOtters otters = new BoothOtters();
-        for (int length = 1; length <= 60; length++) {
-            CHECKS.same("type", otters.type((char) (length * 1000)), length);
-        }
-        CHECKS.refuses(otters, "type into a full program", STATE, () -> otters.type('A'));
-        CHECKS.same("typing is no action", otters.recordedStates(), 0);
-        CHECKS.same("clearProgram()", otters.clearProgram(), 60);
-        CHECKS.same("clearProgram() of an empty one", otters.clearProgram(), 0);
-        CHECKS.same("type after clearing", otters.type('A'), 1);
-        CHECKS.same("clearing is no action", otters.recordedStates(), 0);
-    }
-
-    private static void error(String program, int due) {
-        BoothOtters otters = new BoothOtters();
-        Checks.type(otters, program);
-        CHECKS.same("programError of \"" + program + "\"", otters.programError(), due);
-        CHECKS.same("its length", otters.clearProgram(), program.length());
-    }
-
-    private static void errorsInSteps() {
-        error("", 0);
-        error("A", 1);
-        error("A=", 2);
-        error("A=B", BoothOtters.NONE);
-        error("F=A", BoothOtters.NONE);
-        error("G=A", 0);
-        error("@=A", 0);
-        error("a=A", 0);
-        error(" A=B", 0);
-        error("A =B", 1);
-        error("A==B", 2);
-        error("AB", 1);
-        error("A=G", 2);
-        error("A=+B", 2);
-        error("A=5", 2);
-        error("A=-", 3);
-        error("A=-B", BoothOtters.NONE);
-        error("A=-B+C", 4);
-        error("A=-B;", 5);
-        error("A=--B", 3);
-        error("A=-#1", 3);
-        error("A=B+", 4);
-        error("A=B+C", BoothOtters.NONE);
-        error("A=B-C", BoothOtters.NONE);
-        error("A=B*C", BoothOtters.NONE);
-        error("A=B/C", 3);
-        error("A=B+-C", 4);
-        error("A=B+#1", 4);
-        error("A=B+C+D", 5);
-        error("A=BC", 3);
-        error("A=B=C", 3);
-        error("A=B;", 4);
-        error("A=B;;A=B", 4);
-        error(";A=B", 0);
-        error("A=B;C=D", BoothOtters.NONE);
-        error("A=B;C=D;", 8);
-        error("A=B;C", 5);
-        error("A=B C", 3);
-        error("A=" + (char) ('B' + 256), 2);
-        error("A=" + (char) 65535, 2);
-        error("A=B" + (char) 0, 3);
-    }
-
-    private static void errorsInNumbers() {
-        error("A=#", 3);
-        error("A=#0", BoothOtters.NONE);
-        error("A=#-", 4);
-        error("A=#-0", 4);
-        error("A=#00", 4);
-        error("A=#05", 4);
-        error("A=#+5", 3);
-        error("A=#--5", 4);
-        error("A=#5-", 4);
-        error("A=#A", 3);
-        error("A=#;B=A", 3);
-        error("A=#-;B=A", 4);
-        error("A=#5", BoothOtters.NONE);
-        error("A=#-5", BoothOtters.NONE);
-        error("A=#10", BoothOtters.NONE);
-        error("A=#-10000", BoothOtters.NONE);
-        error("A=#32767", BoothOtters.NONE);
-        error("A=#32768", 7);
-        error("A=#-32768", BoothOtters.NONE);
-        error("A=#-32769", 8);
-        error("A=#3277", BoothOtters.NONE);
-        error("A=#32770", 7);
-        error("A=#-32770", 8);
-        error("A=#9999", BoothOtters.NONE);
-        error("A=#99990", 7);
-        error("A=#4000", BoothOtters.NONE);
-        error("A=#40000", 7);
-        error("A=#100000", 8);
-        error("A=#-100000", 9);
-        error("A=#1/", 4);
-        error("A=#1:", 4);
-        error("A=#1" + (char) ('1' + 256), 4);
-        error("A=#-5;B=#32768", 13);
-        error("A=#5+B", 4);
-    }
-
-    private static void errorsOfLongPrograms() {
-        error("A=B;".repeat(14) + "A=B", BoothOtters.NONE);
-        error("A=B;".repeat(15), 60);
-        error("A=B;".repeat(14) + "A=BB", 59);
-        error("A=#100;".repeat(8) + "A=-B", BoothOtters.NONE);
-        error("A=#100;".repeat(8) + "A=B-", 60);
-        error("A=#100;".repeat(8) + "A=#-", 60);
     }
 
     private static void result(int b, int c, String program, int due) {
@@ -220,17 +104,5 @@ final class ProgramsTest {
         CHECKS.same("undo takes all steps back: A", otters.valueOf(0), 0);
         CHECKS.same("undo takes all steps back: F", otters.valueOf(5), 0);
         CHECKS.same("undo leaves the program", otters.clearProgram(), 15);
-    }
-
-    private static void notValid() {
-        String[] programs = {"", "A", "A=B;", "A=#-0", "A=#32768", "A=B+C+D", "A=B;C=G"};
-        for (String program : programs) {
-            BoothOtters otters = new BoothOtters();
-            otters.set(1, 9);
-            Checks.type(otters, program);
-            CHECKS.refuses(otters, "carryOut of " + program, STATE, () -> otters.carryOut());
-            CHECKS.refuses(otters, "firstOverflow of " + program, STATE, () -> otters.firstOverflow());
-            CHECKS.same("length of " + program, otters.clearProgram(), program.length());
-        }
     }
 }

@@ -1,14 +1,10 @@
 /** Promises 1, 2, 3, 16, 17 and 18: a new object, setWidth, set, width, valueOf, onesOf. */
 final class RegistersTest {
-    private static final Class<IndexOutOfBoundsException> INDEX = IndexOutOfBoundsException.class;
-    private static final Class<IllegalArgumentException> ARGUMENT = IllegalArgumentException.class;
     private static final Checks CHECKS = new Checks();
 
     public static void main(String[] args) {
         newObject();
         setWidth();
-        setWidthGivesUp();
-        set();
         valuesAndOnes();
         CHECKS.end();
     }
@@ -53,51 +49,6 @@ final class RegistersTest {
         CHECKS.same("setWidth(15)", otters.setWidth(15), 4);
         CHECKS.same("a value goes along into a wider register", otters.valueOf(3), -8);
         CHECKS.same("setWidth is an action", otters.recordedStates(), 4);
-        refuseWidth(otters, 3);
-        refuseWidth(otters, 17);
-        refuseWidth(otters, 0);
-        refuseWidth(otters, -8);
-        refuseWidth(otters, Integer.MIN_VALUE);
-        refuseWidth(otters, Integer.MAX_VALUE);
-    }
-
-    private static void refuseWidth(BoothOtters otters, int bits) {
-        CHECKS.refuses(otters, "setWidth(" + bits + ")", ARGUMENT, () -> otters.setWidth(bits));
-    }
-
-    private static void setWidthGivesUp() {
-        BoothOtters otters = new BoothOtters();
-        otters.begin(0, 1, BoothOtters.PAIRS);
-        CHECKS.refuses(otters, "setWidth(17)", ARGUMENT, () -> otters.setWidth(17));
-        CHECKS.same("a setWidth that throws gives nothing up", otters.stepsLeft(), 8);
-        otters.setWidth(8);
-        CHECKS.same("setWidth to the same width gives up", otters.stepsLeft(), BoothOtters.NONE);
-        otters.undo();
-        CHECKS.same("undo brings the multiplication back", otters.stepsLeft(), 8);
-    }
-
-    private static void set() {
-        for (int width = 4; width <= 16; width++) {
-            BoothOtters otters = new BoothOtters();
-            otters.setWidth(width);
-            int least = -(1 << (width - 1));
-            CHECKS.same("set to the least value", otters.set(5, least), 0);
-            CHECKS.same("set to the greatest value", otters.set(5, -1 - least), least);
-            CHECKS.same("the greatest value", otters.valueOf(5), -1 - least);
-            CHECKS.same("set is an action", otters.recordedStates(), 3);
-            CHECKS.refuses(otters, "set below", ARGUMENT, () -> otters.set(0, least - 1));
-            CHECKS.refuses(otters, "set above", ARGUMENT, () -> otters.set(0, -least));
-            CHECKS.same("set counts no overflow", otters.overflows(), 0);
-        }
-        BoothOtters otters = new BoothOtters();
-        CHECKS.refuses(otters, "set(0, MIN_VALUE)", ARGUMENT, () -> otters.set(0, Integer.MIN_VALUE));
-        CHECKS.refuses(otters, "set(0, MAX_VALUE)", ARGUMENT, () -> otters.set(0, Integer.MAX_VALUE));
-        CHECKS.refuses(otters, "set(6, 0)", INDEX, () -> otters.set(6, 0));
-        CHECKS.refuses(otters, "set(-1, 0)", INDEX, () -> otters.set(-1, 0));
-        CHECKS.refuses(otters, "the register comes before the value", INDEX, () -> otters.set(6, 128));
-        otters.begin(0, 0, BoothOtters.PAIRS);
-        otters.set(0, 1);
-        CHECKS.same("set gives no multiplication up", otters.stepsLeft(), 8);
     }
 
     private static void valuesAndOnes() {
@@ -117,11 +68,6 @@ final class RegistersTest {
         ones(otters, -1, 16);
         ones(otters, -32768, 1);
         ones(otters, 32767, 15);
-        int[] none = {-1, 6, Integer.MIN_VALUE, Integer.MAX_VALUE};
-        for (int register : none) {
-            CHECKS.refuses(otters, "valueOf(" + register + ")", INDEX, () -> otters.valueOf(register));
-            CHECKS.refuses(otters, "onesOf(" + register + ")", INDEX, () -> otters.onesOf(register));
-        }
     }
 
     private static void ones(BoothOtters otters, int value, int due) {
