@@ -477,15 +477,20 @@ public final class BoothOtters {
         int count;
 
         void record(State state) {
-            states[next].copyFrom(state);
-            next = (next + 1) % RECORDED_AT_MOST;
+            placeOf(next).copyFrom(state);
+            next++;
             count = Math.min(count + 1, RECORDED_AT_MOST);
         }
 
         void takeLatestInto(State state) {
-            next = (next + RECORDED_AT_MOST - 1) % RECORDED_AT_MOST;
-            state.copyFrom(states[next]);
+            next--;
+            state.copyFrom(placeOf(next));
             count--;
+        }
+
+        /** Each number has a place, so that no index can miss the ring. */
+        private State placeOf(int number) {
+            return states[Math.floorMod(number, RECORDED_AT_MOST)];
         }
     }
 

@@ -1,12 +1,57 @@
-/** Promises 11, 12 and 30: firstOverflow, carryOut and overflows. */
+/** Promises 8 to 12 and 30: type, clearProgram, programError, firstOverflow, carryOut and overflows. */
 final class ProgramsTest {
+    private static final Class<IllegalStateException> STATE = IllegalStateException.class;
     private static final Checks CHECKS = new Checks();
 
     public static void main(String[] args) {
+        typing();
+        errors();
         results();
         overflowing();
         carryingOut();
         CHECKS.end();
+    }
+
+    private static void typing() {
+        BoothOtters otters = new BoothOtters();
+        for (int length = 1; length <= 60; length++) {
+            CHECKS.same("type()", otters.type("A=B;".charAt((length - 1) % 4)), length);
+        }
+        CHECKS.refuses(otters, "a 61st character", STATE, () -> otters.type('A'));
+        CHECKS.same("the program ends too early", otters.programError(), 60);
+        CHECKS.same("typing is no action", otters.recordedStates(), 0);
+        CHECKS.same("clearProgram()", otters.clearProgram(), 60);
+        CHECKS.same("clearProgram() again", otters.clearProgram(), 0);
+        CHECKS.same("clearing is no action", otters.recordedStates(), 0);
+        CHECKS.same("type() after clearing", otters.type('C'), 1);
+    }
+
+    private static void error(String program, int due) {
+        BoothOtters otters = new BoothOtters();
+        Checks.type(otters, program);
+        CHECKS.same("programError of " + program, otters.programError(), due);
+        if (due != BoothOtters.NONE) {
+            CHECKS.refuses(otters, "firstOverflow of " + program, STATE, () -> otters.firstOverflow());
+            CHECKS.refuses(otters, "carryOut of " + program, STATE, () -> otters.carryOut());
+        }
+    }
+
+    private static void errors() {
+        error("", 0);
+        error("A=B*C;D=-E;F=#-32768;A=#32767;B=#0", BoothOtters.NONE);
+        error("A=B;C=D+", 8);
+        error("A=B;C=D/E", 7);
+        error("A=B;G=A", 4);
+        error("a=B", 0);
+        error("A=-#1", 3);
+        error("A=-B+C", 4);
+        error("A=B+C+D", 5);
+        error("A=B+#1", 4);
+        error("A=#32768", 7);
+        error("A=#-32769", 8);
+        error("A=#00", 4);
+        error("A=#-0", 4);
+        error("A=#1+B", 4);
     }
 
     private static void result(int b, int c, String program, int due) {

@@ -5,6 +5,7 @@ final class RegistersTest {
     public static void main(String[] args) {
         newObject();
         setWidth();
+        set();
         valuesAndOnes();
         CHECKS.end();
     }
@@ -49,6 +50,22 @@ final class RegistersTest {
         CHECKS.same("setWidth(15)", otters.setWidth(15), 4);
         CHECKS.same("a value goes along into a wider register", otters.valueOf(3), -8);
         CHECKS.same("setWidth is an action", otters.recordedStates(), 4);
+    }
+
+    private static void set() {
+        BoothOtters otters = new BoothOtters();
+        CHECKS.same("set of a new register", otters.set(4, 127), 0);
+        CHECKS.same("set once more", otters.set(4, -128), 127);
+        CHECKS.same("set to the same", otters.set(4, -128), -128);
+        CHECKS.same("set of another register", otters.set(3, 1), 0);
+        CHECKS.same("set is an action", otters.recordedStates(), 4);
+        CHECKS.refuses(otters, "set(4, 128)", IllegalArgumentException.class, () -> otters.set(4, 128));
+        CHECKS.refuses(otters, "set(4, -129)", IllegalArgumentException.class, () -> otters.set(4, -129));
+        CHECKS.refuses(otters, "set(6, 0)", IndexOutOfBoundsException.class, () -> otters.set(6, 0));
+        CHECKS.refuses(otters, "set(-1, 128)", IndexOutOfBoundsException.class, () -> otters.set(-1, 128));
+        CHECKS.same("set is no overflow", otters.overflows(), 0);
+        otters.setWidth(9);
+        CHECKS.same("set at another width", otters.set(4, 255), -128);
     }
 
     private static void valuesAndOnes() {
